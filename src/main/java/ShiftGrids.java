@@ -62,7 +62,7 @@ public final class ShiftGrids {
             case 3: return unsureCellsOfAll();
             case 4: return foldedCellsOfAll();
             case 5: return gapsOfAll();
-            case 6: return greatestGapOf(firstWithGreatestGap());
+            case 6: return Border.greatestGap(sheet, sheet.at(firstWithGreatestGap()));
             case 7: return firstWithGreatestGap();
             case 8: return book.size();
             case 9: return book.firstWrong(sheet);
@@ -394,15 +394,11 @@ public final class ShiftGrids {
         return n;
     }
 
-    private int greatestGapOf(int g) {
-        return Border.greatestGap(sheet, sheet.at(g));
-    }
-
     private int firstWithGreatestGap() {
         int first = NONE;
         int greatest = 0;
         for (int g = 0; g < sheet.size(); g++) {
-            int gap = greatestGapOf(g);
+            int gap = Border.greatestGap(sheet, sheet.at(g));
             if (gap > greatest) {
                 greatest = gap;
                 first = g;
@@ -512,16 +508,15 @@ public final class ShiftGrids {
             return n;
         }
 
-        /** The column or row of the CELL of a place that is so far beyond the first NODE, of so many CELLS. */
-        private int cellAhead(int beyond, int cells) {
-            int side = side();
-            return side > 0 ? Math.min(beyond / side, cells - 1) : 0;
+        /** The column or row of the CELL of a place that is so far beyond the first NODE; the last NODE begins none. */
+        private static int cellAhead(int beyond, int side, int nodes) {
+            return side > 0 ? Math.min(beyond / side, nodes - 2) : 0;
         }
 
         /** OFFSET of a place by this grid, on whose GROUND it is. */
         int offsetBy(int rule, int x, int y, int axis) {
-            int c = cellAhead(x - columnPlace(0), columns - 1);
-            int r = cellAhead(y - rowPlace(0), rows - 1);
+            int c = cellAhead(x - columnPlace(0), side(), columns);
+            int r = cellAhead(y - rowPlace(0), side(), rows);
             int u = x - columnPlace(c);
             int v = y - rowPlace(r);
             if (rule == RULE_NEAREST) {

@@ -75,6 +75,17 @@ public final class DeedsTest {
         apart.grid(NONE, 0, 0, 10, 2, 2);
         due.is("above one another", apart.grid(NONE, 0, 10, 10, 2, 2), 1);
         due.is("of another PARENT", apart.grid(0, 0, 9, 1, 2, 2), 2);
+        ShiftGrids around = new ShiftGrids();
+        due.is("in the middle", around.grid(NONE, 10, 10, 10, 2, 2), 0);
+        due.is("left of it, over it", around.grid(NONE, 1, 10, 10, 2, 2), NOT);
+        due.is("left of it", around.grid(NONE, 0, 10, 10, 2, 2), 1);
+        due.is("above it, over it", around.grid(NONE, 10, 1, 10, 2, 2), NOT);
+        due.is("above it", around.grid(NONE, 10, 0, 10, 2, 2), 2);
+        due.is("right of it, over it", around.grid(NONE, 19, 10, 10, 2, 2), NOT);
+        due.is("right of it", around.grid(NONE, 20, 10, 10, 2, 2), 3);
+        due.is("below it, over it", around.grid(NONE, 10, 19, 10, 2, 2), NOT);
+        due.is("below it", around.grid(NONE, 10, 20, 10, 2, 2), 4);
+        due.is("at its corner", around.grid(NONE, 20, 20, 10, 2, 2), 5);
         due.is("of the other PARENT", apart.grid(1, 0, 10, 1, 2, 2), 3);
         due.is("no part of the other's ground", apart.grid(1, 0, 9, 1, 2, 2), NOT);
     }
@@ -110,6 +121,15 @@ public final class DeedsTest {
         due.is("dx", x.nodeAt(1, 4, 4, 0), PLUS);
         due.is("dy", x.nodeAt(1, 0, 0, 1), PLUS);
         due.is("the other's dx", x.nodeAt(0, 4, 4, 0), PLUS + 8);
+        // A small one where a large one went.
+        ShiftGrids small = new ShiftGrids();
+        small.grid(NONE, 0, 0, 1, 5, 5);
+        small.fill(0, 7, 7);
+        small.drop(0);
+        small.grid(NONE, 0, 0, 1, 2, 2);
+        due.told("the small one", small, 1, 0, 0, 0, 0, 0, 0, NONE);
+        due.is("fill", small.fill(0, 7, 7), 4);
+        due.told("the small one", small, 1, 0, 4, 0, 0, 0, 0, NONE);
     }
 
     private static void promise10Node() {
@@ -188,6 +208,22 @@ public final class DeedsTest {
         due.is("fit 1", x.fit(1), 8);
         due.is("fit 2", x.fit(2), 4);
         due.is("no PARENT", x.fit(0), NOT);
+        // A border of sixteen nodes, nine inside it.
+        ShiftGrids large = new ShiftGrids();
+        large.grid(NONE, 0, 0, 8, 2, 2);
+        large.grid(0, 0, 0, 2, 5, 5);
+        large.node(0, 0, 0, 32, 0);
+        large.node(0, 1, 0, 64, 0);
+        large.node(0, 0, 1, 96, 0);
+        large.node(0, 1, 1, 128, 0);
+        due.is("fit", large.fit(1), 16);
+        due.is("no gaps", large.gridAt(1, 8), 0);
+        for (int r = 0; r < 5; r++) {
+            for (int c = 0; c < 5; c++) {
+                boolean inside = c > 0 && c < 4 && r > 0 && r < 4;
+                due.is("dx of " + c + ", " + r, large.nodeAt(1, c, r, 0), PLUS + (inside ? 0 : 32 + 8 * c + 16 * r));
+            }
+        }
         for (int g : new int[] {-1, 3, MIN, MAX}) {
             due.is("unknown", x.fit(g), UNKNOWN);
         }
@@ -395,6 +431,21 @@ public final class DeedsTest {
         due.is("PARENT of grid 2", x.gridAt(2, 0), 1);
         due.is("its offset", x.nodeAt(2, 2, 2, 1), PLUS + 3);
         due.is("told(2)", x.told(2), 13);
+        // All nodes of the largest grid come back, in the last of six, too.
+        ShiftGrids large = new ShiftGrids();
+        for (int g = 0; g < 6; g++) {
+            large.grid(NONE, 10 * g, 0, 2, 5, 5);
+            large.fill(g, g + 1, -g);
+        }
+        large.fill(5, 77, 77);
+        large.fill(0, 88, 88);
+        due.is("undo 2", large.undo(2), 12);
+        for (int g = 0; g < 6; g++) {
+            for (int i = 0; i < 25; i++) {
+                due.is("dx", large.nodeAt(g, i % 5, i / 5, 0), PLUS + g + 1);
+                due.is("dy", large.nodeAt(g, i % 5, i / 5, 1), PLUS - g);
+            }
+        }
     }
 
     private static void promise16WhatIsRefusedIsNoDeed() {

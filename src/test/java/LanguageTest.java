@@ -106,6 +106,19 @@ public final class LanguageTest {
             check(List.of("max", "min", "abs", "floorDiv", "floorMod", "arraycopy").contains(library.group(2)), "library: " + library.group());
         }
         lengths(code);
+        making(code);
+    }
+
+    /** All calls of a run live in one room, so objects and arrays are made with the object and by no call. */
+    private static void making(String code) {
+        boolean isConstructor = false;
+        for (String line : code.split("\n")) {
+            if (line.matches(" {4,8}\\S.*\\) \\{")) {
+                isConstructor = line.matches(" +(public )?[A-Z]\\w*\\(\\) \\{");
+            }
+            boolean isField = line.matches(" {8}private final \\S+ \\w+ = new .*;");
+            check(!line.contains("new ") || isConstructor || isField, "made outside a constructor: " + line.trim());
+        }
     }
 
     /** A method begins with a line that ends in ") {" at a member's depth, and ends with the brace at the same depth. */

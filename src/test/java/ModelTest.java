@@ -26,7 +26,8 @@ public final class ModelTest {
 
     private void all() {
         int calls = 0;
-        while (calls < CALLS) {
+        // A step is five calls at most, and an object is used for 512.
+        while (calls <= CALLS - 5) {
             calls += step(random.nextInt(100));
         }
     }
@@ -48,6 +49,12 @@ public final class ModelTest {
 
     private int someGrid() {
         return some(0, Math.max(0, model.told(0) - 1));
+    }
+
+    /** A column (4) or a row (5) of a grid, mostly. */
+    private int someNode(int g, int what) {
+        boolean known = g >= 0 && g < model.told(0);
+        return some(0, known ? model.gridAt(g, what) - 1 : 4);
     }
 
     private int someOffset() {
@@ -77,7 +84,7 @@ public final class ModelTest {
             return grid();
         }
         if (kind < 20) {
-            int g = someGrid(), c = some(0, 3), r = some(0, 3), dx = someOffset(), dy = someOffset();
+            int g = someGrid(), c = someNode(g, 4), r = someNode(g, 5), dx = someOffset(), dy = someOffset();
             return same("node(" + g + ", " + c + ", " + r + ", " + dx + ", " + dy + ")", real.node(g, c, r, dx, dy), model.node(g, c, r, dx, dy));
         }
         if (kind < 24) {
@@ -138,11 +145,13 @@ public final class ModelTest {
             int what = some(0, 10);
             return same("gridAt(" + g + ", " + what + ")", real.gridAt(g, what), model.gridAt(g, what));
         }
-        int c = some(0, 4), r = some(0, 4), what = some(0, 3);
+        int c = someNode(g, 4), r = someNode(g, 5), what = some(0, 3);
         if (kind < 77) {
             return same("nodeAt(" + g + ", " + c + ", " + r + ", " + what + ")", real.nodeAt(g, c, r, what), model.nodeAt(g, c, r, what));
         }
         if (kind < 83) {
+            c -= random.nextInt(2);
+            r -= random.nextInt(2);
             return same("cellAt(" + g + ", " + c + ", " + r + ", " + what + ")", real.cellAt(g, c, r, what), model.cellAt(g, c, r, what));
         }
         int x = near(g, 0), y = near(g, 1);
@@ -154,7 +163,10 @@ public final class ModelTest {
             return same("moved(" + x + ", " + y + ", " + axis + ")", real.moved(x, y, axis), model.moved(x, y, axis));
         }
         int newX = x + some(-300, 300), newY = y + some(-300, 300);
-        return same("back(" + newX + ", " + newY + ", " + what + ")", real.back(newX, newY, what), model.back(newX, newY, what));
+        for (int answer = 0; answer < 4; answer++) {
+            same("back(" + newX + ", " + newY + ", " + answer + ")", real.back(newX, newY, answer), model.back(newX, newY, answer));
+        }
+        return 4 + same("back(" + newX + ", " + newY + ", " + what + ")", real.back(newX, newY, what), model.back(newX, newY, what));
     }
 
     private int grid() {
@@ -167,7 +179,8 @@ public final class ModelTest {
             x = model.gridAt(parent, 1) + random.nextInt(above * (model.gridAt(parent, 4) - 1) + 1);
             y = model.gridAt(parent, 2) + random.nextInt(above * (model.gridAt(parent, 5) - 1) + 1);
         } else {
-            step = some(1, 64);
+            // Small cells are the ones that fold, and in which the rounds go round or lead on for long.
+            step = some(1, random.nextBoolean() ? 64 : 3);
             x = some(0, random.nextBoolean() ? 1000 : 200);
             y = some(0, random.nextBoolean() ? 1000 : 200);
         }

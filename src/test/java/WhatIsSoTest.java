@@ -16,6 +16,7 @@ public final class WhatIsSoTest {
         promise5AreaAndFolded();
         promise6Which();
         promise7MovedByRule0();
+        promise7MovedInLaterCells();
         promise7MovedByRule1();
         promise7MovedByRule2();
         promise7MovedRounded();
@@ -64,6 +65,11 @@ public final class WhatIsSoTest {
     private static void promise2ToldGaps() {
         ShiftGrids x = three();
         due.is("told(0)", x.told(0), 3);
+        x.node(2, 1, 0, 0, -1);
+        due.is("a gap of 1", x.told(5), 1);
+        due.is("its size", x.told(6), 1);
+        due.is("its grid", x.told(7), 2);
+        x.node(2, 1, 0, 0, 0);
         x.node(0, 0, 0, 100, -40);
         due.is("told(2)", x.told(2), 1);
         due.is("gaps by rule 0", x.told(5), 3);
@@ -107,6 +113,13 @@ public final class WhatIsSoTest {
         due.is("folded", x.told(4), 1);
         x.node(2, 0, 0, 999, 999);
         due.is("folded in two grids", x.told(4), 2);
+        // Where all nodes have the same, no cell is steep or folded, though it is far from what is behind the grid.
+        x.fill(0, -999, -999);
+        x.fill(1, 999, 999);
+        x.fill(2, -999, 999);
+        due.is("all sure", x.told(3), 0);
+        due.is("none folded", x.told(4), 0);
+        due.is("none folded in grid 2", x.gridAt(2, 10), 0);
     }
 
     private static void promise2ToldTheRest() {
@@ -134,27 +147,21 @@ public final class WhatIsSoTest {
         x.node(1, 0, 0, -7, 3);
         x.node(1, 2, 2, 6, -4);
         x.node(0, 1, 1, -320, -320);
+        // Gaps of grid 1: -7, 3 against 0, 0; 6, -4 against -320, -320; 0, 0 against -160, -160 at 2, 1 and at 1, 2.
+        // Of grid 2: 0, 0 against -320, -320 where it begins, against four fifths of that and less at its other nodes.
+        // Of grid 3: 0, 0 against -3, 1 (48 by 100 of -7, 3) and against -1, 0 (12 by 100) in its first row.
         int[][] want = {
             {NONE, 0, 0, 10, 3, 3, 2, 0, 0, 0, 1},
-            {0, 0, 0, 5, 3, 3, 1, 1, 0, 0, 0},
-            {0, 10, 10, 2, 2, 2, 0, 1, 0, 0, 0},
-            {1, 1, 2, 3, 2, 3, 0, 2, 0, 0, 0},
+            {0, 0, 0, 5, 3, 3, 1, 1, 4, 326, 0},
+            {0, 10, 10, 2, 2, 2, 0, 1, 4, 320, 0},
+            {1, 1, 2, 3, 2, 3, 0, 2, 2, 3, 0},
         };
-        // Of grid 1 the border nodes tell -7, 3 at 0, 0 and 6, -4 at 2, 2; grid 0 has -320, -320 at 2, 2 and half of it at 2, 1 and 1, 2.
-        want[1][8] = 4;
-        want[1][9] = 326;
-        // Grid 0 has -320, -320 at 10, 10, four fifths of it at 12, 10 and 10, 12, and so on: all four nodes of grid 2 are gaps.
-        want[2][8] = 4;
-        want[2][9] = 320;
-        // Grid 3 stands at x 1 and 4, y 2, 5 and 8, on a ground where grid 1 has offsets but for 5, 5 and what lies at rows or columns without any.
-        want[3][8] = gapsOfGrid3(x);
-        want[3][9] = x.gridAt(3, 9);
         for (int g = 0; g < want.length; g++) {
             for (int what = 0; what < 11; what++) {
                 due.is("gridAt(" + g + ", " + what + ")", x.gridAt(g, what), want[g][what]);
             }
         }
-        due.is("sum of gaps", x.told(5), 8 + want[3][8]);
+        due.is("sum of gaps", x.told(5), 10);
         for (int g : new int[] {-1, 4, 6, MIN, MAX}) {
             due.is("gridAt(" + g + ", 0)", x.gridAt(g, 0), UNKNOWN);
             due.is("gridAt(" + g + ", 11)", x.gridAt(g, 11), UNKNOWN);
@@ -162,17 +169,6 @@ public final class WhatIsSoTest {
         for (int what : new int[] {-1, 11, MIN, MAX}) {
             due.is("gridAt(0, " + what + ")", x.gridAt(0, what), OUTSIDE);
         }
-    }
-
-    /** All nodes of a grid with two columns are on its border; its own offsets are 0, so a gap is where the parent has another one. */
-    private static int gapsOfGrid3(ShiftGrids x) {
-        int gaps = 0;
-        for (int r = 0; r < 3; r++) {
-            for (int c = 0; c < 2; c++) {
-                gaps += x.nodeAt(3, c, r, 2) != PLUS || x.nodeAt(3, c, r, 3) != PLUS ? 1 : 0;
-            }
-        }
-        return gaps;
     }
 
     private static void promise4NodeAt() {
@@ -264,11 +260,42 @@ public final class WhatIsSoTest {
         x.node(0, 2, 1, 0, 0);
         due.is("folded over", x.cellAt(0, 1, 0, 2), 1);
         due.is("area below 0", x.cellAt(0, 1, 0, 3), -2 * 640 * 359);
+        eachCornerDented();
+        thinCell();
         // Far from 0 the products go beyond an int.
         ShiftGrids far = new ShiftGrids();
         far.grid(NONE, 936, 936, 64, 2, 2);
         due.is("far area", far.cellAt(0, 0, 0, 3), 2L * 4096 * 4096);
         due.is("far folded", far.cellAt(0, 0, 0, 2), 0);
+    }
+
+    /** One corner alone on the line between its neighbours, or one place this side of it. */
+    private static void eachCornerDented() {
+        int[][] corners = {{0, 0, 32, 32}, {1, 0, -32, 32}, {1, 1, -32, -32}, {0, 1, 32, -32}};
+        for (int[] corner : corners) {
+            ShiftGrids x = new ShiftGrids();
+            x.grid(NONE, 7, 9, 1, 2, 2);
+            x.node(0, corner[0], corner[1], corner[2], corner[3]);
+            due.is("dented at " + corner[0] + ", " + corner[1], x.cellAt(0, 0, 0, 2), 1);
+            due.is("its area", x.cellAt(0, 0, 0, 3), 64 * 64);
+            x.node(0, corner[0], corner[1], corner[2], corner[3] - Integer.signum(corner[3]));
+            due.is("this side of it", x.cellAt(0, 0, 0, 2), 0);
+            due.is("its area", x.cellAt(0, 0, 0, 3), 64 * 64 + 64);
+            x.node(0, corner[0], corner[1], corner[2], corner[3] + Integer.signum(corner[3]));
+            due.is("beyond it", x.cellAt(0, 0, 0, 2), 1);
+        }
+    }
+
+    /** 0, 0; 64, 1; 127, 2; 63, 1: at each corner the sum is 1, the least that is not folded. */
+    private static void thinCell() {
+        ShiftGrids x = new ShiftGrids();
+        x.grid(NONE, 0, 0, 1, 2, 2);
+        x.node(0, 1, 0, 0, 1);
+        x.node(0, 1, 1, 63, -62);
+        x.node(0, 0, 1, 63, -63);
+        due.is("thin", x.cellAt(0, 0, 0, 2), 0);
+        due.is("its area", x.cellAt(0, 0, 0, 3), 2);
+        due.is("told(4)", x.told(4), 0);
     }
 
     private static void promise6Which() {
@@ -324,6 +351,33 @@ public final class WhatIsSoTest {
         // 217600 by 4096, and 1 54 44, 2 10 44, 3 54 20, 5 10 20 (7496) by 4096.
         due.place(x, 650, 1300, 0, 650 + 53, 1300 + 2);
         due.place(x, 705, 1300, NONE, 705, 1300);
+    }
+
+    /** Cells behind the first ones, of a grid that does not begin at 0, with another number of columns than of rows. */
+    private static void promise7MovedInLaterCells() {
+        ShiftGrids x = new ShiftGrids();
+        x.grid(NONE, 30, 50, 2, 5, 4);
+        for (int r = 0; r < 4; r++) {
+            for (int c = 0; c < 5; c++) {
+                x.node(0, c, r, 10 * c, 20 * r);
+            }
+        }
+        for (int rule = 0; rule <= 2; rule += 2) {
+            x.rule(rule);
+            // A quarter of a step beyond c and r is a quarter of the way to the next offset: 2.5 and 5.
+            for (int r = 0; r < 3; r++) {
+                for (int c = 0; c < 4; c++) {
+                    int placeX = (30 + 2 * c) * 64 + 32;
+                    int placeY = (50 + 2 * r) * 64 + 32;
+                    due.place(x, placeX, placeY, 0, placeX + 10 * c + 3, placeY + 20 * r + 5);
+                }
+            }
+            due.place(x, 38 * 64, 56 * 64, 0, 38 * 64 + 40, 56 * 64 + 60);
+            due.place(x, 34 * 64, 54 * 64, 0, 34 * 64 + 20, 54 * 64 + 40);
+        }
+        x.rule(1);
+        due.place(x, 34 * 64 + 63, 54 * 64 + 64, 0, 34 * 64 + 63 + 20, 54 * 64 + 64 + 60);
+        due.place(x, 34 * 64 - 64, 54 * 64 - 65, 0, 34 * 64 - 64 + 20, 54 * 64 - 65 + 20);
     }
 
     private static void promise7MovedByRule1() {
@@ -396,6 +450,10 @@ public final class WhatIsSoTest {
         due.back(x, 5, 1000, 2, 1, -5, 1020);
         due.back(x, 4100, 1000, 0, 1, 4100, 1000);
         due.back(x, 10, 1000, 0, 2, 0, 1020);
+        x.fill(0, 0, -20);
+        due.back(x, 1000, 1000, 0, 2, 1000, 1020);
+        x.fill(0, 10, 0);
+        due.back(x, 1000, 1000, 0, 2, 990, 1000);
         x.fill(0, -10, 0);
         due.back(x, 4090, 1000, 1, 2, 4090, 1000);
         due.back(x, 4086, 1000, 0, 2, 4096, 1000);
