@@ -606,13 +606,14 @@ public final class ShiftGrids {
 
         int add(int parent, int x, int y, int step, int columns, int rows) {
             int g = count;
-            if (g < 0 || g >= grids.length) {
+            Grid grid = g >= 0 && g < grids.length ? grids[g] : null;
+            if (grid == null) {
                 return FULL;
             }
             count++;
-            grids[g].place(parent, x, y, step, columns, rows);
+            grid.place(parent, x, y, step, columns, rows);
             // A grid that went may have left its offsets here.
-            grids[g].setOffsets(0, 0);
+            grid.setOffsets(0, 0);
             return g;
         }
 
@@ -971,7 +972,11 @@ public final class ShiftGrids {
         }
 
         void push(Sheet sheet) {
-            sheets[Math.floorMod(next, MAX_UNDONE)].copyFrom(sheet);
+            Sheet oldest = sheets[Math.floorMod(next, MAX_UNDONE)];
+            if (oldest == null) {
+                return;
+            }
+            oldest.copyFrom(sheet);
             next = Math.floorMod(next + 1, MAX_UNDONE);
             count = Math.min(count + 1, MAX_UNDONE);
         }
