@@ -695,7 +695,7 @@ public final class ShiftGrids {
     /** The BORDER of a grid against its PARENT; a grid without a PARENT has no GAPS. */
     private static final class Border {
         private static int gap(Grid grid, Grid parent, int rule, int c, int r) {
-            if (!grid.isOnBorder(c, r)) {
+            if (grid == null || parent == null || !grid.isOnBorder(c, r)) {
                 return 0;
             }
             int x = grid.columnPlace(c);
@@ -706,10 +706,10 @@ public final class ShiftGrids {
         }
 
         static int gaps(Sheet sheet, Grid grid) {
-            Grid parent = grid == null ? null : sheet.at(grid.parent);
-            if (grid == null || parent == null) {
+            if (sheet == null || grid == null) {
                 return 0;
             }
+            Grid parent = sheet.at(grid.parent);
             int n = 0;
             for (int r = 0; r < grid.rows; r++) {
                 for (int c = 0; c < grid.columns; c++) {
@@ -720,10 +720,10 @@ public final class ShiftGrids {
         }
 
         static int greatestGap(Sheet sheet, Grid grid) {
-            Grid parent = grid == null ? null : sheet.at(grid.parent);
-            if (grid == null || parent == null) {
+            if (sheet == null || grid == null) {
                 return 0;
             }
+            Grid parent = sheet.at(grid.parent);
             int greatest = 0;
             for (int r = 0; r < grid.rows; r++) {
                 for (int c = 0; c < grid.columns; c++) {
@@ -735,13 +735,13 @@ public final class ShiftGrids {
 
         /** Gives all NODES of the BORDER what the PARENT has there. */
         static void meet(Sheet sheet, Grid grid) {
-            Grid parent = grid == null ? null : sheet.at(grid.parent);
-            if (grid == null || parent == null) {
+            if (sheet == null || grid == null) {
                 return;
             }
+            Grid parent = sheet.at(grid.parent);
             for (int r = 0; r < grid.rows; r++) {
                 for (int c = 0; c < grid.columns; c++) {
-                    if (grid.isOnBorder(c, r)) {
+                    if (parent != null && grid.isOnBorder(c, r)) {
                         int x = grid.columnPlace(c);
                         int y = grid.rowPlace(r);
                         grid.setOffset(c, r, parent.offsetBy(sheet.ruleNow(), x, y, ALONG_X), parent.offsetBy(sheet.ruleNow(), x, y, ALONG_Y));
@@ -826,6 +826,9 @@ public final class ShiftGrids {
         private int last;
 
         void run(Sheet sheet, int x, int y) {
+            if (sheet == null) {
+                return;
+            }
             xs[0] = x;
             ys[0] = y;
             last = 0;
@@ -905,6 +908,9 @@ public final class ShiftGrids {
         }
 
         int firstWrong(Sheet sheet) {
+            if (sheet == null) {
+                return NONE;
+            }
             for (int i = 0; i < count && i < MAX_ENTRIES; i++) {
                 if (xs[i] + sheet.placeOffset(xs[i], ys[i], ALONG_X) != said[i]) {
                     return i;
@@ -938,7 +944,7 @@ public final class ShiftGrids {
         }
 
         void shiftNode(Sheet sheet) {
-            Grid grid = sheet.at(draw(sheet.size()));
+            Grid grid = sheet == null ? null : sheet.at(draw(sheet.size()));
             if (grid == null) {
                 return;
             }
@@ -982,6 +988,9 @@ public final class ShiftGrids {
         }
 
         void takeBack(Sheet sheet, int n) {
+            if (sheet == null) {
+                return;
+            }
             next = Math.floorMod(next - n, MAX_UNDONE);
             count = Math.max(count - n, 0);
             sheet.copyFrom(sheets[next]);
@@ -999,12 +1008,18 @@ public final class ShiftGrids {
         }
 
         void take(Sheet sheet, Draws draws) {
+            if (draws == null) {
+                return;
+            }
             kept.copyFrom(sheet);
             seedThen = draws.seedNow();
             taken = true;
         }
 
         void give(Sheet sheet, Draws draws) {
+            if (sheet == null || draws == null) {
+                return;
+            }
             sheet.copyFrom(kept);
             draws.setSeed(seedThen);
         }

@@ -27,7 +27,7 @@ import javax.tools.ToolProvider;
 /**
  * The rules of ../shared/LANGUAGE.md, each fault with its number, on the tree that the compiler itself makes of the source.
  * In some the class is held to more than the rule asks: it has no recursion, no loop but a counted one, and makes no object
- * outside a constructor. (That no index and no reference makes the machine throw is seen by the sweeps, not here.)
+ * outside a constructor. (That no index makes the machine throw is seen by the sweeps, not here.)
  */
 public final class LanguageTest extends TreePathScanner<Void, Void> {
     private static final Path SOURCE = Path.of("src/main/java/ShiftGrids.java");
@@ -131,6 +131,8 @@ public final class LanguageTest extends TreePathScanner<Void, Void> {
     public Void visitVariable(VariableTree tree, Void v) {
         TypeMirror type = typeOf(tree.getType());
         checkHere(isAllowed(type), tree, "3: the type " + type);
+        boolean isField = getCurrentPath().getParentPath().getLeaf() instanceof ClassTree;
+        checkHere(!isField || type.getKind().isPrimitive() || tree.getModifiers().getFlags().contains(Modifier.FINAL), tree, "7: a field that may come to be null");
         if (tree.getModifiers().getFlags().contains(Modifier.STATIC)) {
             boolean isConstant = ((javax.lang.model.element.VariableElement) trees.getElement(getCurrentPath())).getConstantValue() != null;
             checkHere(tree.getModifiers().getFlags().contains(Modifier.FINAL) && isConstant, tree, "5: a static field that is no constant");
@@ -156,7 +158,50 @@ public final class LanguageTest extends TreePathScanner<Void, Void> {
         Set<Modifier> modifiers = tree.getModifiers().getFlags();
         checkHere(!modifiers.contains(Modifier.SYNCHRONIZED) && !modifiers.contains(Modifier.NATIVE), tree, "6: synchronized, or native");
         calls.computeIfAbsent(nameOf(trees.getElement(getCurrentPath())), k -> new LinkedHashSet<>());
+        references(tree);
         return super.visitMethod(tree, v);
+    }
+
+    /** Parameters and names of a method that are references: each is held against null ahead of its first use. */
+    private void references(MethodTree method) {
+        Set<String> names = new LinkedHashSet<>();
+        Set<String> lookedAt = new LinkedHashSet<>();
+        new TreePathScanner<Void, Void>() {
+            @Override
+            public Void visitVariable(VariableTree tree, Void v) {
+                if (!trees.getTypeMirror(new TreePath(getCurrentPath(), tree.getType())).getKind().isPrimitive()) {
+                    names.add(tree.getName().toString());
+                }
+                return super.visitVariable(tree, v);
+            }
+
+            @Override
+            public Void visitBinary(BinaryTree tree, Void v) {
+                boolean isEquality = tree.getKind() == Tree.Kind.EQUAL_TO || tree.getKind() == Tree.Kind.NOT_EQUAL_TO;
+                if (isEquality && tree.getRightOperand().getKind() == Tree.Kind.NULL_LITERAL) {
+                    lookedAt.add(tree.getLeftOperand().toString());
+                }
+                return super.visitBinary(tree, v);
+            }
+
+            @Override
+            public Void visitMemberSelect(MemberSelectTree tree, Void v) {
+                used(tree.getExpression());
+                return super.visitMemberSelect(tree, v);
+            }
+
+            @Override
+            public Void visitArrayAccess(ArrayAccessTree tree, Void v) {
+                used(tree.getExpression());
+                return super.visitArrayAccess(tree, v);
+            }
+
+            private void used(ExpressionTree reference) {
+                boolean isName = reference instanceof IdentifierTree || reference instanceof MemberSelectTree;
+                checkHere(isName, reference, "7: an answer or an element that is used before it is held against null: " + reference);
+                checkHere(!names.contains(reference.toString()) || lookedAt.contains(reference.toString()), reference, "7: not held against null: " + reference);
+            }
+        }.scan(getCurrentPath(), null);
     }
 
     // ---- calls

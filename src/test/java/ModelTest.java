@@ -1,6 +1,9 @@
 import java.util.Random;
 
-/** Long runs of calls, the same ones on the class and on the model; every answer has to be the same. */
+/**
+ * Long runs of calls, the same ones on the class and on the model; every answer has to be the same. Two runs go on in turn, so
+ * that an object that knew of another one would be seen.
+ */
 public final class ModelTest {
     private static final int RUNS = 400;
     private static final int CALLS = 512;
@@ -11,6 +14,7 @@ public final class ModelTest {
     private final ShiftGrids real = new ShiftGrids();
     private final Model model = new Model();
     private final int run;
+    private int calls;
 
     private ModelTest(int run) {
         this.run = run;
@@ -18,16 +22,25 @@ public final class ModelTest {
     }
 
     public static void main(String[] args) {
-        for (int run = 0; run < RUNS; run++) {
-            new ModelTest(run).all();
+        for (int run = 0; run < RUNS; run += 2) {
+            ModelTest one = new ModelTest(run);
+            ModelTest other = new ModelTest(run + 1);
+            while (one.goesOn() || other.goesOn()) {
+                one.someSteps();
+                other.someSteps();
+            }
         }
         due.end();
     }
 
-    private void all() {
-        int calls = 0;
-        // A step is five calls at most, and an object is used for 512.
-        while (calls <= CALLS - 5) {
+    /** A step is five calls at most, and an object is used for 512. */
+    private boolean goesOn() {
+        return calls <= CALLS - 5;
+    }
+
+    private void someSteps() {
+        int steps = 1 + random.nextInt(3);
+        for (int i = 0; i < steps && goesOn(); i++) {
             calls += step(random.nextInt(100));
         }
     }
